@@ -1,6 +1,5 @@
 import java.util.ArrayList;
 import java.util.List;
-import java.util.Random;
 import java.util.TreeSet;
 
 /** All promises: long runs of calls, each answer compared with that of a plain model made with the Java library. */
@@ -18,7 +17,7 @@ final class ModelTest {
 
     /** One run of calls on a new object; its number makes it the same each time. */
     private static final class Run {
-        private final Random random;
+        private final Dice dice;
         private final StreetIndex index = new StreetIndex();
         private final Model model = new Model();
         private final int run;
@@ -26,14 +25,14 @@ final class ModelTest {
 
         private Run(int run) {
             this.run = run;
-            random = new Random(run);
+            dice = new Dice(run);
             small = run % 3 == 0;
         }
 
         private void play() {
             for (int call = 0; call < CALLS; call++) {
                 // The first half of a run is mostly building, so that the second half has something to ask for.
-                boolean change = random.nextInt(100) < (call < CALLS / 2 ? 70 : 15);
+                boolean change = dice.below(100) < (call < CALLS / 2 ? 70 : 15);
                 if (change) {
                     change();
                 } else {
@@ -43,7 +42,7 @@ final class ModelTest {
         }
 
         private int pick(int below) {
-            return random.nextInt(20) == 0 ? random.nextInt(below + 4) - 2 : random.nextInt(below);
+            return dice.below(20) == 0 ? dice.below(below + 4) - 2 : dice.below(below);
         }
 
         private int street() {
@@ -55,23 +54,23 @@ final class ModelTest {
         }
 
         private int name() {
-            int name = random.nextInt();
-            if (random.nextInt(12) != 0) {
+            int name = dice.any();
+            if (dice.below(12) != 0) {
                 name = 0;
                 for (int k = 0; k < 4; k++) {
-                    name |= (small ? random.nextInt(3) * 4 : random.nextInt(24)) << (8 * k);
+                    name |= (small ? dice.below(3) * 4 : dice.below(24)) << (8 * k);
                 }
             }
             return name;
         }
 
         private int words() {
-            return random.nextInt(15) == 0 ? random.nextInt(8) - 2 : 1 + random.nextInt(4);
+            return dice.below(15) == 0 ? dice.below(8) - 2 : 1 + dice.below(4);
         }
 
         private void change() {
             int street = street();
-            int roll = random.nextInt(20);
+            int roll = dice.below(20);
             if (roll < 4) {
                 int words = words();
                 int name = name();
@@ -82,14 +81,14 @@ final class ModelTest {
             } else if (roll < 16) {
                 compare("dropPoint(" + street + ")", () -> index.dropPoint(street), () -> model.dropPoint(street));
             } else if (roll == 16) {
-                boolean oneWay = random.nextBoolean();
+                boolean oneWay = dice.below(2) == 0;
                 compare("setOneWay(" + street + ", " + oneWay + ")",
                     () -> index.setOneWay(street, oneWay), () -> model.setOneWay(street, oneWay));
             } else if (roll == 17) {
                 rename(street);
             } else {
                 int word = pick(24);
-                int kind = random.nextInt(10) == 0 ? random.nextInt(7) - 2 : random.nextInt(3);
+                int kind = dice.below(10) == 0 ? dice.below(7) - 2 : dice.below(3);
                 compare("setKind(" + word + ", " + kind + ")",
                     () -> index.setKind(word, kind), () -> model.setKind(word, kind));
             }
@@ -107,13 +106,13 @@ final class ModelTest {
         private void addPoint(int street) {
             int column = place();
             int row = place();
-            if (model.has(street) && !model.points.get(street).isEmpty() && random.nextInt(6) != 0) {
+            if (model.has(street) && !model.points.get(street).isEmpty() && dice.below(6) != 0) {
                 // Most points go straight on, or there would be hardly any tracks.
                 List<Integer> points = model.points.get(street);
                 int last = points.get(points.size() - 1);
-                int steps = 1 + random.nextInt(small ? 3 : 11);
-                column = last / 12 + steps * (random.nextInt(3) - 1);
-                row = last % 12 + steps * (random.nextInt(3) - 1);
+                int steps = 1 + dice.below(small ? 3 : 11);
+                column = last / 12 + steps * (dice.below(3) - 1);
+                row = last % 12 + steps * (dice.below(3) - 1);
             }
             int toColumn = column;
             int toRow = row;
@@ -125,7 +124,7 @@ final class ModelTest {
             int s = street();
             int c = place();
             int r = place();
-            switch (random.nextInt(12)) {
+            switch (dice.below(12)) {
                 case 0 -> compare("streets()", () -> index.streets(), () -> model.names.size());
                 case 1 -> compare("streetAt(" + s + ")", () -> index.streetAt(s), () -> model.streetAt(s));
                 case 2 -> compare("placeOf(" + s + ")", () -> index.placeOf(s), () -> model.placeOf(s));
@@ -170,9 +169,9 @@ final class ModelTest {
         }
 
         private void walks() {
-            int from = model.someSquare(random);
-            int to = model.someSquare(random);
-            boolean off = random.nextInt(20) == 0;
+            int from = model.someSquare(dice);
+            int to = model.someSquare(dice);
+            boolean off = dice.below(20) == 0;
             int c = off ? place() : from / 12;
             int r = from % 12;
             int toC = to / 12;
@@ -194,6 +193,24 @@ final class ModelTest {
             } catch (RuntimeException thrown) {
                 return thrown.getClass();
             }
+        }
+    }
+
+    /** Numbers that look as if they were thrown, and are the same for each run of the test. */
+    private static final class Dice {
+        private long state;
+
+        private Dice(int run) {
+            state = 0x9E3779B97F4A7C15L * (run + 1);
+        }
+
+        private int any() {
+            state = state * 6364136223846793005L + 1442695040888963407L;
+            return (int) (state >>> 32);
+        }
+
+        private int below(int bound) {
+            return Math.floorMod(any(), bound);
         }
     }
 
@@ -505,13 +522,13 @@ final class ModelTest {
         }
 
         /** A square of a street if there is one, so that many walks lead somewhere. */
-        private int someSquare(Random random) {
-            int street = names.isEmpty() ? 0 : random.nextInt(names.size());
-            if (names.isEmpty() || track(street).isEmpty() || random.nextInt(10) == 0) {
-                return random.nextInt(144);
+        private int someSquare(Dice dice) {
+            int street = names.isEmpty() ? 0 : dice.below(names.size());
+            if (names.isEmpty() || track(street).isEmpty() || dice.below(10) == 0) {
+                return dice.below(144);
             }
             List<Integer> track = track(street);
-            return track.get(random.nextInt(track.size()));
+            return track.get(dice.below(track.size()));
         }
     }
 }

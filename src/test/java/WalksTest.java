@@ -11,6 +11,8 @@ final class WalksTest {
         shortcuts();
         squaresThatComeAgain();
         farthestWalk();
+        overAllStreets(false);
+        overAllStreets(true);
         wrongArguments();
         expect.end();
     }
@@ -172,6 +174,30 @@ final class WalksTest {
         bothWalks(index, "A11", "L9", 13);
         reached(index, "A11", 14);
         reached(index, "L9", 14);
+    }
+
+    /** Sixteen streets of one step each: one order of them is the worst for rounds that go by the streets' numbers. */
+    private static void overAllStreets(boolean backwards) {
+        StreetIndex index = new StreetIndex();
+        String[] path = {"A1", "B2", "C3", "D4", "E5", "F6", "G7", "H8", "I9", "J10", "K11", "L12",
+            "K12", "J12", "I12", "H12", "G12"};
+        for (int street = 0; street < 16; street++) {
+            int part = backwards ? 15 - street : street;
+            Expect.add(index, street);
+            Expect.points(index, street, path[part], path[part + 1]);
+            index.setOneWay(street, true);
+        }
+        bothWalks(index, "A1", "G12", 16);
+        bothWalks(index, "A1", "L12", 11);
+        bothWalks(index, "G12", "A1", -1);
+        reached(index, "A1", 17);
+        reached(index, "L12", 6);
+        for (int street = 0; street < 16; street++) {
+            index.setOneWay(street, false);
+        }
+        bothWalks(index, "G12", "A1", 16);
+        bothWalks(index, "K12", "J10", 3);
+        reached(index, "G12", 17);
     }
 
     private static void wrongArguments() {
