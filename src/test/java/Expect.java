@@ -5,16 +5,22 @@ final class Expect {
     static final Class<?> STATE = IllegalStateException.class;
 
     private final String test;
+    private String about = "";
     private int wrong;
 
     Expect(String test) {
         this.test = test;
     }
 
+    /** What the answers from here on are about: it is told with each that is wrong. */
+    void about(String what) {
+        about = what + ": ";
+    }
+
     void same(String call, Object got, Object due) {
         if (!got.equals(due)) {
             wrong++;
-            System.out.println(test + ": " + call + " answered " + got + ", due is " + due);
+            System.out.println(test + ": " + about + call + " answered " + got + ", due is " + due);
         }
     }
 
