@@ -14,18 +14,23 @@ final class Document {
     private final boolean[] quoted;
 
     Document(Path file) {
-        try {
-            lines = Files.readAllLines(file);
-        } catch (IOException unread) {
-            throw new IllegalStateException("no document at " + file, unread);
-        }
+        lines = readLines(file);
         quoted = new boolean[lines.size()];
     }
 
-    /** Tells whether a sentence stands in the section with this heading, and notes where. */
+    private static List<String> readLines(Path file) {
+        try {
+            return Files.readAllLines(file);
+        } catch (IOException unread) {
+            System.out.println("There is no document at " + file + ": its sentences are not looked up.");
+            return List.of();
+        }
+    }
+
+    /** Tells whether a sentence stands in the section with this heading, and notes where; true without a document. */
     boolean has(String section, String sentence) {
         boolean within = false;
-        boolean found = false;
+        boolean found = lines.isEmpty();
         for (int k = 0; k < lines.size(); k++) {
             String line = lines.get(k);
             if (line.startsWith("## ")) {

@@ -49,7 +49,8 @@ final class SquaresBounds {
         Bounds.column("`column`: 0 to 11", (index, column, row) -> on.is(index, 0, column, row));
         Bounds.row("`row`: 0 to 11", (index, column, row) -> on.is(index, 0, column, row));
         Bounds.noSuchStreet("if there is no such street or square", (index, street) -> on.is(index, street, 5, 5));
-        Bounds.noSuchSquare("if there is no such street or square", (index, column, row) -> on.is(index, 1, column, row));
+        Bounds.noSuchSquare("if there is no such street or square",
+            (index, column, row) -> on.is(index, 1, column, row));
     }
 
     private static void streetsOf() {

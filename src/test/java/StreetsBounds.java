@@ -54,7 +54,8 @@ final class StreetsBounds {
         Bounds.noSuchStreet("if there is no such street or square", (index, street) -> index.addPoint(street, 5, 6));
         Bounds.noSuchSquare("if there is no such street or square",
             (index, column, row) -> index.addPoint(0, column, row));
-        Bounds.test("if there is no such street or square", "straight on off the plan", StreetsBounds::pointsOffThePlan);
+        Bounds.test("if there is no such street or square", "straight on off the plan",
+            StreetsBounds::pointsOffThePlan);
         Bounds.test("if the point is the same square as the last one", "the first, and a later one",
             StreetsBounds::samePoint);
         Bounds.test("or not in the same column, the same row or on the same diagonal", "one square beside",
@@ -86,7 +87,8 @@ final class StreetsBounds {
     private static void rename() {
         Bounds.promise(6);
         Bounds.test("Renames a street", "its name alone", StreetsBounds::nameAlone);
-        Bounds.test("how many words its name has then, 1 to 4", "1 to 4", () -> fewAndManyWords(StreetsBounds::renamed));
+        Bounds.test("how many words its name has then, 1 to 4", "1 to 4",
+            () -> fewAndManyWords(StreetsBounds::renamed));
         Bounds.test("the words, as told at addStreet()", "4 different words", () -> bytes(StreetsBounds::renamed));
         Bounds.test("the words, as told at addStreet()", "higher bytes", () -> higherBytes(StreetsBounds::renamed));
         Bounds.noSuchStreet("if there is no such street", (index, street) -> index.rename(street, 1, Expect.ELM));

@@ -30,8 +30,16 @@ final class TermsBounds {
         Bounds.test("The squares of the street are those of its track, each once", "to and fro", TermsBounds::eachOnce);
         Bounds.test("One step leads from a square of a track to the next square", "the ends of a track",
             TermsBounds::stepsOfATrack);
+        Bounds.test("One step leads from a square of a track to the next square", "in each direction",
+            TermsBounds::stepsInEachDirection);
         Bounds.test("or to the one ahead of it, unless the street is one-way", "one-way and not",
             TermsBounds::stepsBack);
+        Bounds.test("or to the one ahead of it, unless the street is one-way", "a step that comes several times",
+            TermsBounds::stepsThatComeAgain);
+        Bounds.test("A walk is made of steps along any streets", "streets on the same squares",
+            TermsBounds::streetsOnTheSameSquares);
+        Bounds.test("A walk is made of steps along any streets", "a step of each of 16 streets",
+            TermsBounds::stepsOfSixteenStreets);
         Bounds.test("one can change from street to street in any square that both have", "with and without one",
             TermsBounds::changeOfStreet);
     }
@@ -273,6 +281,17 @@ final class TermsBounds {
         WalksBounds.both(index, "C3", "A1", 4);
     }
 
+    private static void stepsInEachDirection() {
+        for (String next : new String[] {"E5", "E6", "E7", "F5", "F7", "G5", "G6", "G7"}) {
+            StreetIndex index = Bounds.oak("F6", next);
+            WalksBounds.both(index, "F6", next, 1);
+            WalksBounds.both(index, next, "F6", 1);
+            index.setOneWay(0, true);
+            WalksBounds.both(index, "F6", next, 1);
+            WalksBounds.both(index, next, "F6", -1);
+        }
+    }
+
     private static void stepsBack() {
         StreetIndex index = Bounds.oak("A1", "A3");
         WalksBounds.both(index, "A2", "A1", 1);
@@ -286,6 +305,44 @@ final class TermsBounds {
         Expect.points(index, 1, "A1", "A2");
         WalksBounds.both(index, "A2", "A1", 1);
         WalksBounds.both(index, "A3", "A2", -1);
+    }
+
+    private static void stepsThatComeAgain() {
+        String[][] tracks = {
+            {"A1", "A2", "A1"}, {"A2", "A1", "A2"}, {"A1", "A2", "A1", "A2"}, {"A1", "A3", "A1", "A2"}};
+        for (String[] track : tracks) {
+            StreetIndex index = Bounds.oak(track);
+            WalksBounds.both(index, "A1", "A2", 1);
+            WalksBounds.both(index, "A2", "A1", 1);
+            index.setOneWay(0, true);
+            WalksBounds.both(index, "A1", "A2", 1);
+            WalksBounds.both(index, "A2", "A1", 1);
+        }
+    }
+
+    private static void streetsOnTheSameSquares() {
+        String[][] others = {{"A1", "A3"}, {"A3", "A1"}, {"A1", "A2", "A3"}};
+        for (String[] other : others) {
+            StreetIndex index = Bounds.oak("A1", "A3");
+            Expect.add(index, Expect.ELM);
+            Expect.points(index, 1, other);
+            WalksBounds.both(index, "A1", "A3", 2);
+            WalksBounds.both(index, "A3", "A1", 2);
+            index.setOneWay(0, true);
+            WalksBounds.both(index, "A1", "A3", 2);
+            WalksBounds.both(index, "A3", "A1", 2);
+        }
+    }
+
+    private static void stepsOfSixteenStreets() {
+        StreetIndex index = WalksBounds.sixteenSteps();
+        WalksBounds.both(index, "A1", "G12", 16);
+        WalksBounds.both(index, "G12", "A1", -1);
+        for (int street = 0; street < 16; street++) {
+            index.setOneWay(street, false);
+        }
+        WalksBounds.both(index, "A1", "G12", 16);
+        WalksBounds.both(index, "G12", "A1", 16);
     }
 
     private static void changeOfStreet() {

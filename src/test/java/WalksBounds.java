@@ -12,17 +12,22 @@ final class WalksBounds {
         walks(StreetIndex::walk);
         Bounds.test("Returns the fewest steps of a walk", "one step, and the most steps of one street",
             () -> fewAndManySteps(StreetIndex::walk));
-        Bounds.test("Returns the fewest steps of a walk", "all squares of the plan", () -> allSquares(StreetIndex::walk));
+        Bounds.test("Returns the fewest steps of a walk", "all squares of the plan",
+            () -> allSquares(StreetIndex::walk));
         Bounds.test("Returns the fewest steps of a walk", "the shortest of several",
             () -> shortestOfSeveral(StreetIndex::walk));
+        Bounds.test("Returns the fewest steps of a walk", "a round of three squares",
+            () -> threeSquares(StreetIndex::walk));
         Bounds.promise(23);
         walks(StreetIndex::walkByRounds);
         Bounds.test("each square of a track is told how far the other square is", "the most steps of one street",
             () -> fewAndManySteps(StreetIndex::walkByRounds));
         Bounds.test("until nothing becomes less", "all squares of the plan",
             () -> allSquares(StreetIndex::walkByRounds));
-        Bounds.test("until nothing becomes less", "a street at each step, in the worst order", WalksBounds::manyRounds);
+        Bounds.test("until nothing becomes less", "two streets by turns", WalksBounds::twoStreetsByTurns);
+        Bounds.test("until nothing becomes less", "fifteen streets by turns", WalksBounds::fifteenStreetsByTurns);
         Bounds.test("Returns the same", "the shortest of several", () -> shortestOfSeveral(StreetIndex::walkByRounds));
+        Bounds.test("Returns the same", "a round of three squares", () -> threeSquares(StreetIndex::walkByRounds));
         Bounds.promise(24);
         reachable();
     }
@@ -180,8 +185,29 @@ final class WalksBounds {
         steps(walk, index, "L6", "A6", 21);
     }
 
+    private static void threeSquares(Walk walk) {
+        String[] squares = {"A1", "A2", "B1"};
+        for (int first = 0; first < 3; first++) {
+            for (int step = 1; step < 3; step++) {
+                String second = squares[(first + step) % 3];
+                String third = squares[(first + 2 * step) % 3];
+                StreetIndex index = Bounds.oak(squares[first], second, third, squares[first]);
+                for (String from : squares) {
+                    for (String to : squares) {
+                        steps(walk, index, from, to, from.equals(to) ? 0 : 1);
+                    }
+                }
+                index.setOneWay(0, true);
+                steps(walk, index, squares[first], second, 1);
+                steps(walk, index, second, squares[first], 2);
+                steps(walk, index, third, second, 2);
+                steps(walk, index, third, squares[first], 1);
+            }
+        }
+    }
+
     /** Two one-way streets that have every other step upwards each, the uppermost one first. */
-    private static void manyRounds() {
+    private static void twoStreetsByTurns() {
         String[][] parts = {
             {"A11", "A12", "A9", "A10", "A7", "A8", "A5", "A6", "A3", "A4"},
             {"A10", "A11", "A8", "A9", "A6", "A7", "A4", "A5", "A2", "A3"}};
@@ -195,6 +221,35 @@ final class WalksBounds {
             steps(StreetIndex::walkByRounds, index, "A12", "A2", 10);
             steps(StreetIndex::walkByRounds, index, "A12", "A1", -1);
         }
+    }
+
+    /**
+     * A way of 75 steps, up and down in columns of eight rows: each of fifteen one-way streets has every fifteenth
+     * step of it, the last one first, and goes back between them along a row. Where the streets are gone over in the
+     * order of the way, each round tells one step more.
+     */
+    private static void fifteenStreetsByTurns() {
+        for (int order = 0; order < 2; order++) {
+            StreetIndex index = Bounds.streets(15);
+            for (int street = 0; street < 15; street++) {
+                int part = order == 0 ? street : 14 - street;
+                for (int step = 60 + part; step >= 0; step -= 15) {
+                    addPointOfWay(index, street, step);
+                    addPointOfWay(index, street, step + 1);
+                }
+                index.setOneWay(street, true);
+            }
+            expect.same("the whole way", index.walkByRounds(0, 0, 9, 4), 75);
+            expect.same("the last step", index.walkByRounds(9, 5, 9, 4), 1);
+            expect.same("beyond the end", index.walkByRounds(0, 0, 9, 3), -1);
+            expect.same("the whole way outwards", index.walk(0, 0, 9, 4), 75);
+        }
+    }
+
+    private static void addPointOfWay(StreetIndex index, int street, int place) {
+        int column = place / 8;
+        int row = column % 2 == 0 ? place % 8 : 7 - place % 8;
+        index.addPoint(street, column, row);
     }
 
     // ---- promise 24
@@ -228,18 +283,20 @@ final class WalksBounds {
         reached(index, "A12", 12);
     }
 
-    private static void reachedOverStreets() {
-        StreetIndex index = new StreetIndex();
-        for (int street = 0; street < 16; street++) {
-            Expect.add(index, street);
-        }
+    /** Sixteen one-way streets of one step each; the last ones begin the way: the order by numbers is of no help. */
+    static StreetIndex sixteenSteps() {
         String[] path = {"A1", "B2", "C3", "D4", "E5", "F6", "G7", "H8", "I9", "J10", "K11", "L12", "K12", "J12", "I12",
             "H12", "G12"};
+        StreetIndex index = Bounds.streets(16);
         for (int street = 0; street < 16; street++) {
-            // The last streets lead on from the first square: the order by numbers is of no help.
             Expect.points(index, street, path[15 - street], path[16 - street]);
             index.setOneWay(street, true);
         }
+        return index;
+    }
+
+    private static void reachedOverStreets() {
+        StreetIndex index = sixteenSteps();
         reached(index, "A1", 17);
         reached(index, "G12", 1);
         reached(index, "L12", 6);
