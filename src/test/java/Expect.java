@@ -31,8 +31,16 @@ final class Expect {
             run.run();
         } catch (RuntimeException thrown) {
             got = thrown.getClass();
+            throwerIsTheClass(call, thrown);
         }
         same(call + " throws", got, due);
+    }
+
+    /** What a call of the library threw on its own can be of the due class, but comes from the library. */
+    private void throwerIsTheClass(String call, RuntimeException thrown) {
+        StackTraceElement[] frames = thrown.getStackTrace();
+        String thrower = frames.length == 0 ? "the machine" : frames[0].getClassName();
+        same("the class whose code throws in " + call, thrower.split("\\$")[0], "StreetIndex");
     }
 
     void end() {
